@@ -1,0 +1,60 @@
+import java.util.NoSuchElementException;
+
+/** Promise 8: distance tells how many edges the shortest way has, one or more. */
+public final class DistanceTest {
+    public static void main(String[] args) {
+        Checks checks = new Checks();
+        findsTheShortest(checks);
+        goesRoundTheGreatCircle(checks);
+        followsTheRounds(checks);
+        refusesWrongVertices(checks);
+        checks.end();
+    }
+
+    private static void findsTheShortest(Checks checks) {
+        ReachKeeper keeper = Checks.with(0, 1, 1, 2, 2, 3, 0, 31, 31, 3, 3, 0, 5, 5, 5, 6);
+        checks.equal("an edge", 1, () -> keeper.distance(0, 1));
+        checks.equal("a chain", 2, () -> keeper.distance(0, 2));
+        checks.equal("the shorter of two", 2, () -> keeper.distance(0, 3));
+        checks.equal("back to itself", 3, () -> keeper.distance(0, 0));
+        checks.equal("the longer way back", 4, () -> keeper.distance(1, 1));
+        checks.equal("a loop", 1, () -> keeper.distance(5, 5));
+        checks.refused("an edge's wrong side", NoSuchElementException.class, () -> keeper.distance(6, 5));
+        checks.refused("itself without a way", NoSuchElementException.class, () -> keeper.distance(6, 6));
+        checks.refused("another part", NoSuchElementException.class, () -> keeper.distance(0, 5));
+    }
+
+    private static void goesRoundTheGreatCircle(Checks checks) {
+        ReachKeeper keeper = Checks.greatCircle();
+        for (int v = 0; v < 32; v++) {
+            int b = v;
+            checks.equal("circle: distance(0, " + b + ")", b == 0 ? 32 : b, () -> keeper.distance(0, b));
+            checks.equal("circle: distance(" + b + ", " + b + ")", 32, () -> keeper.distance(b, b));
+        }
+    }
+
+    private static void followsTheRounds(Checks checks) {
+        ReachKeeper keeper = Checks.with(0, 1, 1, 2);
+        Checks.more(keeper, 0, 2);
+        checks.equal("gathered alone", 2, () -> keeper.distance(0, 2));
+        keeper.apply();
+        checks.equal("a shorter way came", 1, () -> keeper.distance(0, 2));
+        Checks.less(keeper, 0, 2);
+        keeper.apply();
+        checks.equal("it went", 2, () -> keeper.distance(0, 2));
+        Checks.less(keeper, 1, 2);
+        keeper.apply();
+        checks.refused("no way is left", NoSuchElementException.class, () -> keeper.distance(0, 2));
+    }
+
+    private static void refusesWrongVertices(Checks checks) {
+        ReachKeeper keeper = Checks.greatCircle();
+        for (int v : new int[] {-1, 32, Integer.MIN_VALUE, Integer.MAX_VALUE}) {
+            checks.refused("distance(" + v + ", 0)", IllegalArgumentException.class, () -> keeper.distance(v, 0));
+            checks.refused("distance(0, " + v + ")", IllegalArgumentException.class, () -> keeper.distance(0, v));
+        }
+        ReachKeeper empty = new ReachKeeper();
+        checks.refused("bad before missing, b", IllegalArgumentException.class, () -> empty.distance(0, 32));
+        checks.refused("bad before missing, a", IllegalArgumentException.class, () -> empty.distance(-1, 0));
+    }
+}
