@@ -30,6 +30,8 @@ public final class CountTest {
         pairs.apply();
         checks.equal("all joined to one", 1, () -> pairs.count(7));
         checks.equal("all lead to themselves", 6, () -> pairs.count(6));
+        ReachKeeper downward = Checks.with(9, 9, 9, 3, 3, 3);
+        checks.equal("two loops, joined from the higher one", 2, () -> downward.count(7));
         ReachKeeper loops = new ReachKeeper();
         for (int v = 0; v < 32; v++) {
             loops.change(v, v, true);
