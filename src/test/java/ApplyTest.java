@@ -9,6 +9,8 @@ public final class ApplyTest {
         refusesAConflict(checks);
         anEmptyRoundIsARound(checks);
         sameWaysByOtherEdges(checks);
+        thenNothingIsGathered(checks);
+        answersFromNoneToAll(checks);
         checks.end();
     }
 
@@ -79,5 +81,42 @@ public final class ApplyTest {
         checks.equal("the circle turned round", 0, () -> keeper.apply());
         checks.equal("counts", List.of(3, 3, 9, 0, 0, 0, 3, 1), () -> Checks.counts(keeper));
         checks.equal("distance(0, 1)", 2, () -> keeper.distance(0, 1));
+    }
+
+    // "then nothing is gathered": the round isn't done a second time, and the next one begins at 1.
+    private static void thenNothingIsGathered(Checks checks) {
+        for (int size : new int[] {1, 59, 60}) {
+            ReachKeeper keeper = new ReachKeeper();
+            Checks.gather(keeper, 0, 31, true, size);
+            keeper.apply();
+            checks.equal("gathered behind " + size, 0, () -> keeper.count(3));
+            checks.equal("forget() behind " + size, 0, () -> keeper.forget());
+            checks.equal("apply() again", 0, () -> keeper.apply());
+            checks.equal("times(0, 31)", size, () -> keeper.times(0, 31));
+            checks.equal("the next round's first", 1, () -> keeper.change(0, 31, false));
+            keeper.apply();
+            checks.equal("times(0, 31) once less", size - 1, () -> keeper.times(0, 31));
+        }
+    }
+
+    // "Answers how many PAIRS CAME or WENT": 0, 1, and all 1024, of either kind and of both.
+    private static void answersFromNoneToAll(Checks checks) {
+        ReachKeeper keeper = new ReachKeeper();
+        checks.equal("none", 0, () -> keeper.apply());
+        keeper.change(31, 31, true);
+        checks.equal("one came", 1, () -> keeper.apply());
+        keeper.change(31, 31, true);
+        checks.equal("twice there, none came", 0, () -> keeper.apply());
+        Checks.less(keeper, 31, 31, 31, 31);
+        checks.equal("one went", 1, () -> keeper.apply());
+        Checks.gatherCircle(keeper, true);
+        checks.equal("all came", 1024, () -> keeper.apply());
+        Checks.gatherCircle(keeper, false);
+        checks.equal("all went", 1024, () -> keeper.apply());
+        keeper.change(0, 31, true);
+        keeper.apply();
+        Checks.less(keeper, 0, 31);
+        Checks.more(keeper, 31, 0);
+        checks.equal("one came and one went", 2, () -> keeper.apply());
     }
 }

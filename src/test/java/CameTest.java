@@ -17,7 +17,8 @@ public final class CameTest {
         checks.refused("came(0) before apply", NoSuchElementException.class, () -> keeper.came(0));
         keeper.apply();
         checks.equal("came", List.of(0, 31, 233, 992, 1023), () -> Checks.allCame(keeper));
-        for (int i : new int[] {-1, 5, 6, 1023, 1024, Integer.MIN_VALUE, Integer.MAX_VALUE}) {
+        for (int i : new int[] {-1, 5, 6, 31, 32, 255, 256, 1023, 1024, 65536, -65536, Integer.MIN_VALUE,
+            Integer.MIN_VALUE + 1, Integer.MAX_VALUE}) {
             checks.refused("came(" + i + ")", NoSuchElementException.class, () -> keeper.came(i));
         }
     }
@@ -47,6 +48,8 @@ public final class CameTest {
             checks.equal("circle: came(" + i + ")", i, () -> keeper.came(i));
         }
         checks.equal("circle: came(1023)", 1023, () -> keeper.came(1023));
-        checks.refused("circle: came(1024)", NoSuchElementException.class, () -> keeper.came(1024));
+        for (int i : new int[] {-1, 1024, 1025, Integer.MIN_VALUE, Integer.MAX_VALUE}) {
+            checks.refused("circle: came(" + i + ")", NoSuchElementException.class, () -> keeper.came(i));
+        }
     }
 }

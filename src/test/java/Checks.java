@@ -8,6 +8,33 @@ final class Checks {
         Object answer();
     }
 
+    /** A call on an object that is given later. */
+    interface Question {
+        Object answer(ReachKeeper keeper);
+    }
+
+    /** A call of the face that is given two vertices. */
+    interface PairCall {
+        Object answer(ReachKeeper keeper, int a, int b);
+    }
+
+    /** A run of calls on one object. */
+    interface Run {
+        void on(ReachKeeper keeper);
+    }
+
+    /**
+     * No vertices: the first beyond each end, the ends of int, and some that would be vertices
+     * if a byte, a char, a shift or 32 a + b wrapped around.
+     */
+    static final int[] NO_VERTICES = {-1, 32, -32, -31, 33, 63, 64, 255, 256, 1023, 1024, 65535, 65536,
+        1 << 27, (1 << 27) + 1, -(1 << 27), Integer.MIN_VALUE, Integer.MIN_VALUE + 31, Integer.MAX_VALUE};
+
+    /** No pairs, though 32 a + b is the number of one, with or without a wrap-around. */
+    static final int[][] NO_PAIRS = {{-1, 32}, {-1, 63}, {0, 32}, {0, 1023}, {1, -1}, {1, -32}, {31, -1}, {31, -992},
+        {32, -1}, {32, -1024}, {1 << 27, 0}, {-(1 << 27), 31}, {(1 << 27) + 31, 31}, {Integer.MIN_VALUE, 0},
+        {Integer.MIN_VALUE, 31}};
+
     private int wrong = 0;
 
     void equal(String what, Object want, Call call) {
@@ -40,17 +67,24 @@ final class Checks {
 
     /** Gathers each edge once more, told as a, b, a, b, ... */
     static void more(ReachKeeper keeper, int... ends) {
-        gather(keeper, true, ends);
+        gatherAll(keeper, true, ends);
     }
 
     /** Gathers each edge once less, told as a, b, a, b, ... */
     static void less(ReachKeeper keeper, int... ends) {
-        gather(keeper, false, ends);
+        gatherAll(keeper, false, ends);
     }
 
-    private static void gather(ReachKeeper keeper, boolean more, int... ends) {
+    private static void gatherAll(ReachKeeper keeper, boolean more, int... ends) {
         for (int i = 0; i + 1 < ends.length; i += 2) {
             keeper.change(ends[i], ends[i + 1], more);
+        }
+    }
+
+    /** Gathers the same edge several times. */
+    static void gather(ReachKeeper keeper, int a, int b, boolean more, int times) {
+        for (int i = 0; i < times; i++) {
+            keeper.change(a, b, more);
         }
     }
 
@@ -65,11 +99,16 @@ final class Checks {
     /** The circle 0 -> 1 -> ... -> 31 -> 0. */
     static ReachKeeper greatCircle() {
         ReachKeeper keeper = new ReachKeeper();
-        for (int v = 0; v < 32; v++) {
-            keeper.change(v, (v + 1) % 32, true);
-        }
+        gatherCircle(keeper, true);
         keeper.apply();
         return keeper;
+    }
+
+    /** Gathers the great circle's 32 edges. */
+    static void gatherCircle(ReachKeeper keeper, boolean more) {
+        for (int v = 0; v < 32; v++) {
+            keeper.change(v, (v + 1) % 32, more);
+        }
     }
 
     static List<Integer> allCame(ReachKeeper keeper) {

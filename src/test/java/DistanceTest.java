@@ -7,6 +7,7 @@ public final class DistanceTest {
         findsTheShortest(checks);
         goesRoundTheGreatCircle(checks);
         followsTheRounds(checks);
+        oneOrMore(checks);
         refusesWrongVertices(checks);
         checks.end();
     }
@@ -45,6 +46,26 @@ public final class DistanceTest {
         Checks.less(keeper, 1, 2);
         keeper.apply();
         checks.refused("no way is left", NoSuchElementException.class, () -> keeper.distance(0, 2));
+    }
+
+    // "(one or more)": never 0, and an edge that is there often is still one.
+    private static void oneOrMore(Checks checks) {
+        ReachKeeper keeper = new ReachKeeper();
+        Checks.gather(keeper, 31, 31, true, 20);
+        Checks.gather(keeper, 31, 0, true, 20);
+        Checks.gather(keeper, 0, 31, true, 20);
+        keeper.apply();
+        checks.equal("a loop, shorter than there and back", 1, () -> keeper.distance(31, 31));
+        checks.equal("an edge", 1, () -> keeper.distance(31, 0));
+        checks.equal("there and back", 2, () -> keeper.distance(0, 0));
+        Checks.gather(keeper, 31, 31, false, 20);
+        keeper.apply();
+        checks.equal("there and back, without the loop", 2, () -> keeper.distance(31, 31));
+        Checks.gather(keeper, 31, 0, false, 20);
+        keeper.apply();
+        checks.refused("none back to 31", NoSuchElementException.class, () -> keeper.distance(31, 31));
+        checks.refused("none back to 0", NoSuchElementException.class, () -> keeper.distance(0, 0));
+        checks.equal("one there", 1, () -> keeper.distance(0, 31));
     }
 
     private static void refusesWrongVertices(Checks checks) {

@@ -7,6 +7,8 @@ public final class ForgetTest {
         leavesWhatIsApplied(checks);
         makesRoomInAFullRound(checks);
         endsAConflict(checks);
+        answersHowManyItWere(checks);
+        leavesCameAndWent(checks);
         checks.end();
     }
 
@@ -43,5 +45,38 @@ public final class ForgetTest {
         checks.equal("apply() of nothing", 0, () -> keeper.apply());
         keeper.change(8, 9, true);
         checks.equal("apply()", 1, () -> keeper.apply());
+    }
+
+    // "Answers how many it were": from none to a full round, and none the second time.
+    private static void answersHowManyItWere(Checks checks) {
+        for (int size = 0; size <= 60; size++) {
+            int due = size;
+            ReachKeeper keeper = new ReachKeeper();
+            Checks.gather(keeper, 31, 0, size % 2 == 0, size);
+            checks.equal("forget() of " + size, due, () -> keeper.forget());
+            checks.equal("gathered behind it", 0, () -> keeper.count(3));
+            checks.equal("forget() again", 0, () -> keeper.forget());
+            checks.equal("apply() of nothing", 0, () -> keeper.apply());
+            checks.equal("counts", List.of(0, 0, 0, 0, 0, 0, 0, 0), () -> Checks.counts(keeper));
+        }
+        ReachKeeper full = new ReachKeeper();
+        Checks.gather(full, 31, 0, true, 60);
+        checks.refused("the 61st", IndexOutOfBoundsException.class, () -> full.change(31, 0, true));
+        checks.equal("forget() counts no refused change", 60, () -> full.forget());
+    }
+
+    // "What's gathered is forgotten", and nothing else.
+    private static void leavesCameAndWent(Checks checks) {
+        ReachKeeper keeper = Checks.with(0, 1);
+        Checks.less(keeper, 0, 1);
+        Checks.more(keeper, 1, 0);
+        keeper.apply();
+        for (int i = 0; i < 2; i++) {
+            keeper.forget();
+            checks.equal("counts", List.of(1, 1, 1, 0, 1, 1, 0, 0), () -> Checks.counts(keeper));
+            checks.equal("came(0)", 32, () -> keeper.came(0));
+            checks.equal("went(0)", 1, () -> keeper.went(0));
+            Checks.more(keeper, 0, 1);
+        }
     }
 }

@@ -17,7 +17,8 @@ public final class WentTest {
         Checks.less(keeper, 7, 9, 0, 31);
         keeper.apply();
         checks.equal("went", List.of(0, 31, 233), () -> Checks.allWent(keeper));
-        for (int i : new int[] {-1, 3, 4, 1023, 1024, Integer.MIN_VALUE, Integer.MAX_VALUE}) {
+        for (int i : new int[] {-1, 3, 4, 31, 32, 255, 256, 1023, 1024, 65536, -65536, Integer.MIN_VALUE,
+            Integer.MIN_VALUE + 1, Integer.MAX_VALUE}) {
             checks.refused("went(" + i + ")", NoSuchElementException.class, () -> keeper.went(i));
         }
     }
@@ -48,6 +49,8 @@ public final class WentTest {
             checks.equal("circle: went(" + i + ")", i, () -> keeper.went(i));
         }
         checks.equal("circle: went(1023)", 1023, () -> keeper.went(1023));
-        checks.refused("circle: went(1024)", NoSuchElementException.class, () -> keeper.went(1024));
+        for (int i : new int[] {-1, 1024, 1025, Integer.MIN_VALUE, Integer.MAX_VALUE}) {
+            checks.refused("circle: went(" + i + ")", NoSuchElementException.class, () -> keeper.went(i));
+        }
     }
 }
