@@ -1,4 +1,4 @@
-/** Terms: "VERTICES 0 .. 31", and "Bad" is IllegalArgumentException: no such VERTEX, in all calls that are given two. */
+/** Terms: "VERTICES 0 .. 31" and "Bad": no such VERTEX, in all calls that are given two of them. */
 public final class VerticesTest {
     private static final String[] NAMES = {"change more", "change less", "holds", "distance", "times"};
     private static final Checks.PairCall[] CALLS = {
