@@ -25,6 +25,11 @@ public final class FaceTest {
         Checks checks = new Checks();
         checks.equal("the class's modifiers", Modifier.PUBLIC | Modifier.FINAL, () -> ReachKeeper.class.getModifiers());
         checks.equal("methods", new TreeSet<>(FACE), () -> openMethods());
+        for (Method method : ReachKeeper.class.getDeclaredMethods()) {
+            boolean open = Modifier.isPublic(method.getModifiers());
+            checks.equal(method + " is public, or its name isn't one of the face", true,
+                    () -> open || !isNameOfTheFace(method.getName()));
+        }
         Constructor<?>[] constructors = ReachKeeper.class.getDeclaredConstructors();
         checks.equal("how many constructors", 1, () -> constructors.length);
         checks.equal("the constructor", "public ReachKeeper()", () -> constructors[0].toString());
@@ -50,6 +55,15 @@ public final class FaceTest {
             }
         }
         return open;
+    }
+
+    private static boolean isNameOfTheFace(String name) {
+        for (String method : FACE) {
+            if (method.contains("." + name + "(")) {
+                return true;
+            }
+        }
+        return false;
     }
 
     private static String name(Class<?> kind) {
