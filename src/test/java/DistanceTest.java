@@ -5,6 +5,7 @@ public final class DistanceTest {
     public static void main(String[] args) {
         Checks checks = new Checks();
         findsTheShortest(checks);
+        ofSeveralAsShort(checks);
         goesRoundTheGreatCircle(checks);
         followsTheRounds(checks);
         oneOrMore(checks);
@@ -23,6 +24,19 @@ public final class DistanceTest {
         checks.refused("an edge's wrong side", NoSuchElementException.class, () -> keeper.distance(6, 5));
         checks.refused("itself without a way", NoSuchElementException.class, () -> keeper.distance(6, 6));
         checks.refused("another part", NoSuchElementException.class, () -> keeper.distance(0, 5));
+    }
+
+    // Two to thirty ways of two edges each, from 0 over one of the others to 31.
+    private static void ofSeveralAsShort(Checks checks) {
+        for (int ways = 2; ways <= 30; ways++) {
+            ReachKeeper keeper = new ReachKeeper();
+            for (int v = 1; v <= ways; v++) {
+                Checks.more(keeper, 0, v, v, 31);
+            }
+            keeper.apply();
+            checks.equal(ways + " ways, all as short", 2, () -> keeper.distance(0, 31));
+            checks.equal(ways + " ways, an edge of one", 1, () -> keeper.distance(1, 31));
+        }
     }
 
     private static void goesRoundTheGreatCircle(Checks checks) {
